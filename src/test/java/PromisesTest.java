@@ -648,6 +648,19 @@ final class PromisesTest {
             }
             checks.due("nothing is changed", x.digest(), before);
         }
+        SewingFrames dries = withSewer(9);
+        dries.order(1, 8, 0);
+        dries.pass(3);
+        checks.due("2 hours left: foresee(1, 4)", dries.foresee(1, 4), 1);
+        checks.due("2 hours left: foresee(2, 5)", dries.foresee(2, 5), 1);
+        checks.due("2 hours left: foresee(3, 7)", dries.foresee(3, 7), 1);
+        SewingFrames strung = withSewer(9);
+        strung.string(0, 5);
+        strung.order(1, 1, 0);
+        checks.due("11 stitches: foresee(2, 13)", strung.foresee(2, 13), 9);
+        checks.due("11 stitches: foresee(3, 13)", strung.foresee(3, 13), 11);
+        strung.string(0, 2);
+        checks.due("8 stitches: foresee(2, 13)", strung.foresee(2, 13), 8);
         SewingFrames x = richer();
         x.order(1, 1, 0);
         checks.due("foresee(1, 3)", x.foresee(1, 3), 1);
@@ -756,6 +769,12 @@ final class PromisesTest {
         checks.due("1 is sold", x.next(), 0);
         x.pass(1);
         checks.due("all are done", x.next(), -1);
+        SewingFrames y = withSewer(9);
+        y.order(1, 1, 0);
+        y.order(1, 1, 0);
+        y.pass(5);
+        y.seat(0, 1);
+        checks.due("a smaller number is done already", y.next(), 1);
     }
 
     private void nextIsAtMost250() {

@@ -627,10 +627,11 @@ public final class SewingFrames {
         }
 
         int stitchesAnHour(int frame) {
-            int sitters = sittersAt(frame);
+            int sitters = 0;
             int speeds = 0;
             for (Sewer sewer : sewers) {
                 if (sewer.frame == frame) {
+                    sitters++;
                     speeds += sewer.speed;
                 }
             }

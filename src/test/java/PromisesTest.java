@@ -46,22 +46,6 @@ final class PromisesTest {
         test.checks.end();
     }
 
-    /** One sewer of this speed at frame 0. */
-    private static SewingFrames withSewer(int speed) {
-        SewingFrames x = new SewingFrames();
-        x.hire(speed);
-        x.seat(0, 0);
-        return x;
-    }
-
-    /** Two sewers at frame 0. */
-    private static SewingFrames withPair(int speed, int other) {
-        SewingFrames x = withSewer(speed);
-        x.hire(other);
-        x.seat(1, 0);
-        return x;
-    }
-
     private void dueTold(SewingFrames x, int book, int... want) {
         for (int what = 0; what < want.length; what++) {
             checks.due("told(" + book + ", " + what + ")", x.told(book, what), want[what]);
@@ -119,7 +103,7 @@ final class PromisesTest {
 
     private void unpick() {
         checks.promise("3 unpick");
-        SewingFrames x = withSewer(5);
+        SewingFrames x = Workshops.withSewer(5);
         x.order(4, 2, 1);
         checks.dueThrow("unpick of one that waits", x, STATE, () -> x.unpick(0));
         x.pass(1);
@@ -150,7 +134,7 @@ final class PromisesTest {
 
     private void unpickLoose() {
         checks.promise("3 unpick");
-        SewingFrames x = withPair(9, 9);
+        SewingFrames x = Workshops.withPair(9, 9);
         x.order(4, 2, 1);
         x.order(1, 1, 0);
         x.order(2, 2, 2);
@@ -172,7 +156,7 @@ final class PromisesTest {
 
     private void sell() {
         checks.promise("4 sell");
-        SewingFrames x = withSewer(9);
+        SewingFrames x = Workshops.withSewer(9);
         x.order(1, 1, 0);
         x.order(1, 1, 1);
         checks.dueThrow("sell of one that waits", x, STATE, () -> x.sell(0));
@@ -200,7 +184,7 @@ final class PromisesTest {
 
     private void told() {
         checks.promise("5 told");
-        SewingFrames x = withSewer(9);
+        SewingFrames x = Workshops.withSewer(9);
         x.string(0, 2);
         x.order(3, 5, 2);
         dueTold(x, 0, 3, 5, 2, 0, -1, 0, 0, 0, 0, 0, 12);
@@ -231,7 +215,7 @@ final class PromisesTest {
 
     private void toldOfLastSignature() {
         checks.promise("5 told");
-        SewingFrames x = withSewer(1);
+        SewingFrames x = Workshops.withSewer(1);
         x.order(2, 1, 0);
         x.pass(1);
         // 7 stitches for the first signature, 7 for the last one
@@ -330,7 +314,7 @@ final class PromisesTest {
 
     private void frame() {
         checks.promise("10 frame");
-        SewingFrames x = withSewer(5);
+        SewingFrames x = Workshops.withSewer(5);
         x.string(1, 5);
         x.order(3, 1, 0);
         x.order(1, 1, 0);
@@ -350,14 +334,14 @@ final class PromisesTest {
 
     private void frameSpeed() {
         checks.promise("10 frame");
-        checks.due("1 alone", withSewer(1).frame(0, 3), 1);
-        checks.due("9 alone", withSewer(9).frame(0, 3), 9);
-        checks.due("1 and 1", withPair(1, 1).frame(0, 3), 1);
-        checks.due("1 and 2", withPair(1, 2).frame(0, 3), 1);
-        checks.due("2 and 2", withPair(2, 2).frame(0, 3), 1);
-        checks.due("2 and 3", withPair(2, 3).frame(0, 3), 2);
-        checks.due("9 and 9", withPair(9, 9).frame(0, 3), 15);
-        SewingFrames x = withPair(9, 4);
+        checks.due("1 alone", Workshops.withSewer(1).frame(0, 3), 1);
+        checks.due("9 alone", Workshops.withSewer(9).frame(0, 3), 9);
+        checks.due("1 and 1", Workshops.withPair(1, 1).frame(0, 3), 1);
+        checks.due("1 and 2", Workshops.withPair(1, 2).frame(0, 3), 1);
+        checks.due("2 and 2", Workshops.withPair(2, 2).frame(0, 3), 1);
+        checks.due("2 and 3", Workshops.withPair(2, 3).frame(0, 3), 2);
+        checks.due("9 and 9", Workshops.withPair(9, 9).frame(0, 3), 15);
+        SewingFrames x = Workshops.withPair(9, 4);
         x.seat(0, 1);
         checks.due("4 left alone", x.frame(0, 3), 4);
         checks.due("9 elsewhere", x.frame(1, 3), 9);
@@ -398,7 +382,7 @@ final class PromisesTest {
 
     /** Has sold a book: 40 coins, 291 ells. */
     private static SewingFrames richer() {
-        SewingFrames x = withSewer(9);
+        SewingFrames x = Workshops.withSewer(9);
         x.order(1, 1, 0);
         x.pass(5);
         x.sell(0);
@@ -407,7 +391,7 @@ final class PromisesTest {
 
     private void count() {
         checks.promise("12 count");
-        SewingFrames x = withPair(9, 9);
+        SewingFrames x = Workshops.withPair(9, 9);
         x.hire(9);
         x.seat(2, 1);
         x.string(0, 4);
@@ -439,7 +423,7 @@ final class PromisesTest {
 
     private void pass() {
         checks.promise("13 pass");
-        SewingFrames x = withSewer(9);
+        SewingFrames x = Workshops.withSewer(9);
         x.hire(9);
         x.seat(1, 1);
         x.order(1, 1, 0);
@@ -467,19 +451,19 @@ final class PromisesTest {
     private void passKettleStitches() {
         checks.promise("13 pass: sewing");
         // the 10th stitch of the hour is the only kettle stitch of the book
-        SewingFrames x = withPair(9, 4);
+        SewingFrames x = Workshops.withPair(9, 4);
         x.string(0, 4);
         x.order(1, 1, 0);
         x.pass(2);
         dueTold(x, 0, 1, 1, 0, 2, -1, 1, 0, 1, 2, 0, 9);
         checks.due("count(14)", x.count(14), 1);
         // the 9th stitch is not loose
-        SewingFrames y = withPair(9, 4);
+        SewingFrames y = Workshops.withPair(9, 4);
         y.order(1, 1, 0);
         y.pass(2);
         dueTold(y, 0, 1, 1, 0, 2, -1, 1, 0, 0, 2, 0, 10);
         // kettle stitches at 7, 12, 17, 22, ..: with 15 an hour the 12th, and of the next hour that of 27, its 12th
-        SewingFrames z = withPair(9, 9);
+        SewingFrames z = Workshops.withPair(9, 9);
         z.order(24, 1, 0);
         z.pass(2);
         checks.due("loose in the first hour", z.told(0, 7), 1);
@@ -488,7 +472,7 @@ final class PromisesTest {
         checks.due("sewn whole in two hours", z.told(0, 5), 5);
         checks.due("worth", z.told(0, 10), 96 + 6 - 6);
         // a frame whose book is sewn takes no stitch of the next book in this hour
-        SewingFrames v = withPair(9, 9);
+        SewingFrames v = Workshops.withPair(9, 9);
         v.order(1, 1, 0);
         v.order(1, 1, 0);
         v.order(1, 1, 0);
@@ -501,7 +485,7 @@ final class PromisesTest {
     private void passGilding() {
         checks.promise("13 pass: gilding");
         // 15 thick takes 1 leaf, 16 thick takes 2
-        SewingFrames x = withSewer(9);
+        SewingFrames x = Workshops.withSewer(9);
         x.hire(9);
         x.seat(1, 1);
         x.order(3, 5, 1);
@@ -521,7 +505,7 @@ final class PromisesTest {
     private void passGildingStops() {
         checks.promise("13 pass: gilding");
         // 13 leaves an edge: the second edge finds 7
-        SewingFrames x = withSewer(9);
+        SewingFrames x = Workshops.withSewer(9);
         x.hire(9);
         x.seat(1, 1);
         x.order(24, 8, 2);
@@ -550,7 +534,7 @@ final class PromisesTest {
 
     private void passBoards() {
         checks.promise("13 pass: boards");
-        SewingFrames x = withSewer(9);
+        SewingFrames x = Workshops.withSewer(9);
         for (int i = 0; i < 8; i++) {
             x.order(1, 1, 0);
         }
@@ -574,7 +558,7 @@ final class PromisesTest {
         checks.promise("13 pass: drying");
         int[][] books = {{1, 7, 2}, {1, 8, 3}, {3, 5, 3}, {2, 8, 4}, {24, 8, 26}};
         for (int[] book : books) {
-            SewingFrames x = withSewer(9);
+            SewingFrames x = Workshops.withSewer(9);
             x.order(book[0], book[1], 0);
             while (x.told(0, 3) < 2 && x.count(0) < 50) {
                 x.pass(1);
@@ -592,7 +576,7 @@ final class PromisesTest {
 
     private void passThread() {
         checks.promise("13 pass: thread");
-        SewingFrames x = withPair(9, 9);
+        SewingFrames x = Workshops.withPair(9, 9);
         x.hire(9);
         x.seat(2, 1);
         x.order(24, 1, 0);
@@ -616,7 +600,7 @@ final class PromisesTest {
 
     private void passMounting() {
         checks.promise("13 pass: mounting");
-        SewingFrames x = withSewer(9);
+        SewingFrames x = Workshops.withSewer(9);
         for (int i = 0; i < 5; i++) {
             x.order(1, 1, 0);
         }
@@ -637,8 +621,8 @@ final class PromisesTest {
         checks.promise("14 foresee");
         int[] hours = {1, 2, 5, 13, 40, 120};
         for (int h : hours) {
-            SewingFrames x = busy();
-            SewingFrames y = busy();
+            SewingFrames x = Workshops.busy();
+            SewingFrames y = Workshops.busy();
             long before = x.digest();
             y.pass(h);
             for (int what = 2; what <= 14; what++) {
@@ -648,13 +632,13 @@ final class PromisesTest {
             }
             checks.due("nothing is changed", x.digest(), before);
         }
-        SewingFrames dries = withSewer(9);
+        SewingFrames dries = Workshops.withSewer(9);
         dries.order(1, 8, 0);
         dries.pass(3);
         checks.due("2 hours left: foresee(1, 4)", dries.foresee(1, 4), 1);
         checks.due("2 hours left: foresee(2, 5)", dries.foresee(2, 5), 1);
         checks.due("2 hours left: foresee(3, 7)", dries.foresee(3, 7), 1);
-        SewingFrames strung = withSewer(9);
+        SewingFrames strung = Workshops.withSewer(9);
         strung.string(0, 5);
         strung.order(1, 1, 0);
         checks.due("11 stitches: foresee(2, 13)", strung.foresee(2, 13), 9);
@@ -679,28 +663,9 @@ final class PromisesTest {
         }
     }
 
-    /** Seven books, four sewers, some hours gone. */
-    private static SewingFrames busy() {
-        SewingFrames x = withPair(8, 9);
-        x.hire(2);
-        x.hire(6);
-        x.seat(2, 1);
-        x.seat(3, 2);
-        x.string(1, 5);
-        x.order(4, 3, 2);
-        x.order(2, 8, 1);
-        x.order(9, 2, 0);
-        x.order(1, 1, 3);
-        x.order(6, 6, 1);
-        x.order(3, 7, 2);
-        x.order(2, 2, 0);
-        x.pass(6);
-        return x;
-    }
-
     private void until() {
         checks.promise("15 until");
-        SewingFrames x = withSewer(9);
+        SewingFrames x = Workshops.withSewer(9);
         x.order(1, 1, 0);
         x.order(1, 1, 0);
         long before = x.digest();
@@ -730,7 +695,7 @@ final class PromisesTest {
 
     /** Frame 0 alone is sewn at, a stitch an hour: the books 0 and then 3. */
     private static SewingFrames slow(int[] first, int[] last) {
-        SewingFrames x = withSewer(1);
+        SewingFrames x = Workshops.withSewer(1);
         x.order(first[0], first[1], first[2]);
         x.order(1, 1, 0);
         x.order(1, 1, 0);
@@ -769,7 +734,7 @@ final class PromisesTest {
         checks.due("1 is sold", x.next(), 0);
         x.pass(1);
         checks.due("all are done", x.next(), -1);
-        SewingFrames y = withSewer(9);
+        SewingFrames y = Workshops.withSewer(9);
         y.order(1, 1, 0);
         y.order(1, 1, 0);
         y.pass(5);
@@ -843,7 +808,7 @@ final class PromisesTest {
 
     private void worth() {
         checks.promise("18 worth");
-        SewingFrames x = withSewer(9);
+        SewingFrames x = Workshops.withSewer(9);
         checks.due("without books", x.worth(), 0);
         x.order(1, 1, 0);
         x.order(1, 1, 0);
@@ -862,7 +827,7 @@ final class PromisesTest {
 
     private void mean() {
         checks.promise("19 mean");
-        SewingFrames x = withSewer(9);
+        SewingFrames x = Workshops.withSewer(9);
         checks.due("without books", x.mean(), 0.0);
         x.order(1, 1, 0);
         checks.due("one that waits", x.mean(), 4.0);
@@ -883,7 +848,7 @@ final class PromisesTest {
         checks.promise("20 digest");
         SewingFrames x = new SewingFrames();
         checks.due("a new object", x.digest(), digestOf(x, 0, 0));
-        SewingFrames y = busy();
+        SewingFrames y = Workshops.busy();
         checks.due("a busy one", y.digest(), digestOf(y, 4, 7));
         long before = y.digest();
         checks.due("digest() twice", y.digest(), before);

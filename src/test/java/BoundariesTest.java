@@ -67,6 +67,7 @@ final class BoundariesTest {
         adviseOfSeveral();
         adviseFewerThan2Others();
         adviseWhereItSits();
+        adviseWhereItHinders();
         adviseIn12Hours();
         adviseWithoutThread();
         nothingIsChanged();
@@ -708,6 +709,18 @@ final class BoundariesTest {
         z.order(24, 1, 0);
         z.seat(1, 2);
         checks.due("as many: the smallest number", z.advise(1), 0);
+    }
+
+    private void adviseWhereItHinders() {
+        checks.promise("17 advise: a frame, though at none more would be sewn");
+        SewingFrames x = threeBooks(24, 24, 24);
+        x.hire(1);
+        checks.due("it hinders alike at all three", x.advise(3), 0);
+        x.hire(9);
+        x.seat(4, 0);
+        checks.due("2 others at frame 0", x.advise(3), 1);
+        x.seat(2, -1);
+        checks.due("nobody at frame 2", x.advise(3), 2);
     }
 
     private void adviseIn12Hours() {
